@@ -307,7 +307,7 @@ public final class SequentMachine {
     }
 
     private int assume(Row term) {
-        if (!isFormula(term)) {
+        if (scribe.typeOf(term).at(0) != BOOL) {
             return MISFIT;
         }
         Hypotheses itself = new Hypotheses();
@@ -328,7 +328,7 @@ public final class SequentMachine {
     }
 
     private int addAxiom(Row term) {
-        if (!isFormula(term)) {
+        if (scribe.typeOf(term).at(0) != BOOL) {
             return MISFIT;
         }
         if (assumed.isFull()) {
@@ -398,10 +398,6 @@ public final class SequentMachine {
         boolean found = term.at(0) == APPLICATION && term.at(1) == APPLICATION
                 && term.at(2) == CONSTANT && term.at(3) == EQUAL;
         return found ? new Equation(term) : null;
-    }
-
-    private boolean isFormula(Row term) {
-        return scribe.typeOf(term).at(0) == BOOL;
     }
 
     private boolean takesArgument(Row functionType, Row argumentType) {
@@ -807,12 +803,13 @@ public final class SequentMachine {
             put(ABSTRACTION);
             putRow(variable.typeAt(2));
             depth.begin();
+            int replacedTo = 0;
             for (int i = 0; i < body.size; i++) {
                 depth.pass(body.at(i));
                 if (body.holdsAt(i, variable)) {
                     put(BOUND + depth.around);
-                    i += variable.size - 1;
-                } else {
+                    replacedTo = i + variable.size;
+                } else if (i >= replacedTo) {
                     put(body.at(i));
                 }
             }
@@ -820,11 +817,12 @@ public final class SequentMachine {
         }
 
         Row replaceVariable(Row term, Row variable, Row by) {
+            int replacedTo = 0;
             for (int i = 0; i < term.size; i++) {
                 if (term.holdsAt(i, variable)) {
                     putRow(by);
-                    i += variable.size - 1;
-                } else {
+                    replacedTo = i + variable.size;
+                } else if (i >= replacedTo) {
                     put(term.at(i));
                 }
             }

@@ -81,6 +81,11 @@ final class ReplaceTest {
         bench.does("type 0, fetch 0, fetch 1").refuses(1, "inst");
         bench.does("pop, pop, type 0, fetch 1").refuses(1, "inst");
         bench.does("pop, pop, pop, fetch 0, fetch 0, abs, fetch 0, fetch 1").refuses(1, "inst");
+        Bench other = new Bench("promise 10, one of three objects is wrong");
+        other.does("type -1, var 0, keep 0, theorem 1, keep 1, pop, fetch 0, type -1, fetch 1").refuses(1, "inst");
+        other.does("pop, pop, fetch 1, fetch 1").refuses(1, "inst");
+        other.does("pop, pop, fetch 0, type -1").refuses(1, "inst");
+        other.does("pop, fetch 0").refuses(1, "inst").does("pop, fetch 1, inst");
     }
 
     private static void typeInstances() {
