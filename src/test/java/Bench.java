@@ -4,15 +4,14 @@ import java.util.List;
 /** Drives one machine by short texts, such as "type -1, var 0", and prints every answer that is not as due. */
 final class Bench {
     private static final int CALLS_OF_ONE_OBJECT = 512;
+    private static final String QUESTIONS = "count kind hypotheses length symbol";
     private static int checks = 0;
     private static int wrong = 0;
 
     private final String title;
     private final SequentMachine machine = new SequentMachine();
-    private final List<String> history = new ArrayList<>();
-    private SequentMachine viewer;
-    private int viewerCalls;
-    private int replayed;
+    private final Viewer all = new Viewer();
+    private final Viewer done = new Viewer();
 
     Bench(String title) {
         this.title = title;
@@ -36,29 +35,44 @@ final class Bench {
 
     /** All these commands are done. */
     Bench does(String calls) {
-        for (String call : calls.split(",")) {
-            answers(0, call.trim());
+        for (String call : Recipes.calls(calls)) {
+            answers(0, call);
         }
         return this;
     }
 
     Bench answers(int due, String call) {
-        history.add(call);
-        check(title + ": " + call, perform(machine, call), due);
+        int got = perform(machine, call);
+        check(title + ": " + call, got, due);
+        all.add(call);
+        if (got == 0 && !QUESTIONS.contains(call.split(" ")[0])) {
+            done.add(call);
+        }
         return this;
     }
 
-    /** The command is refused with this answer, and nothing changes. */
+    /**
+     * The command is refused with this answer, and nothing changes: all looks as before, and as on an object
+     * that has met neither this call nor any other that was refused.
+     */
     Bench refuses(int due, String call) {
-        String before = state();
+        String before = state(all);
         answers(due, call);
-        check(title + ": the state after " + call, state(), before);
+        check(title + ": the state after " + call, state(all), before);
+        check(title + ": the state without what was refused up to " + call, state(done), before);
+        return this;
+    }
+
+    Bench refusesAll(int due, String calls) {
+        for (String call : Recipes.calls(calls)) {
+            refuses(due, call);
+        }
         return this;
     }
 
     /** Part i at a place has just these symbols. */
     Bench shows(int place, int i, String symbols) {
-        check(title + ": part " + i + " at " + place, part(place, i), symbols);
+        check(title + ": part " + i + " at " + place, part(all, place, i), symbols);
         return this;
     }
 
@@ -73,55 +87,40 @@ final class Bench {
         return this;
     }
 
-    /** All that can be seen of the machine. */
-    String state() {
+    /** All that can be seen of a machine. */
+    private static String state(Viewer viewer) {
         StringBuilder text = new StringBuilder();
         for (int list = 0; list < 5; list++) {
-            text.append(ask("count " + list)).append(' ');
+            text.append(viewer.ask("count " + list)).append(' ');
         }
         for (int bank = 0; bank < 400; bank += 100) {
             for (int place = bank; place < bank + 13; place++) {
-                text.append(objectAt(place));
+                text.append(objectAt(viewer, place));
             }
         }
         return text.toString();
     }
 
-    private String objectAt(int place) {
-        int kind = ask("kind " + place);
+    private static String objectAt(Viewer viewer, int place) {
+        int kind = viewer.ask("kind " + place);
         if (kind < 0) {
             return "";
         }
-        int hypotheses = ask("hypotheses " + place);
+        int hypotheses = viewer.ask("hypotheses " + place);
         StringBuilder text = new StringBuilder("\n  " + place + ": kind " + kind + ", hypotheses " + hypotheses);
         for (int i = 0; i <= Math.max(0, hypotheses); i++) {
-            text.append(", part ").append(i).append(' ').append(part(place, i));
+            text.append(", part ").append(i).append(' ').append(part(viewer, place, i));
         }
         return text.toString();
     }
 
-    private String part(int place, int i) {
-        int length = ask("length " + place + " " + i);
+    private static String part(Viewer viewer, int place, int i) {
+        int length = viewer.ask("length " + place + " " + i);
         StringBuilder text = new StringBuilder();
         for (int j = 0; j < length; j++) {
-            text.append(j == 0 ? "" : " ").append(ask("symbol " + place + " " + i + " " + j));
+            text.append(j == 0 ? "" : " ").append(viewer.ask("symbol " + place + " " + i + " " + j));
         }
         return text.toString();
-    }
-
-    /** Looks at a second object with the same history, so that none is used for too many calls. */
-    private int ask(String query) {
-        if (viewer == null || viewerCalls + history.size() - replayed >= CALLS_OF_ONE_OBJECT) {
-            viewer = new SequentMachine();
-            viewerCalls = 0;
-            replayed = 0;
-        }
-        for (; replayed < history.size(); replayed++) {
-            perform(viewer, history.get(replayed));
-            viewerCalls++;
-        }
-        viewerCalls++;
-        return perform(viewer, query);
     }
 
     static int perform(SequentMachine machine, String call) {
@@ -152,5 +151,34 @@ final class Bench {
 
     private static int number(String[] words, int index) {
         return Integer.parseInt(words[index]);
+    }
+
+    /** Looks at objects with a given history, a new one each time that the last was used for too many calls. */
+    private static final class Viewer {
+        private final List<String> history = new ArrayList<>();
+        private SequentMachine machine;
+        private int calls;
+        private int replayed;
+
+        void add(String call) {
+            history.add(call);
+            if (history.size() >= CALLS_OF_ONE_OBJECT) {
+                throw new IllegalStateException("one object is used for too many calls");
+            }
+        }
+
+        int ask(String question) {
+            if (machine == null || calls + history.size() - replayed >= CALLS_OF_ONE_OBJECT) {
+                machine = new SequentMachine();
+                calls = 0;
+                replayed = 0;
+            }
+            for (; replayed < history.size(); replayed++) {
+                perform(machine, history.get(replayed));
+                calls++;
+            }
+            calls++;
+            return perform(machine, question);
+        }
     }
 }

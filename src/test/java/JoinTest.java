@@ -9,6 +9,7 @@ final class JoinTest {
         misfitsOfApplying();
         deducing();
         orderOfHypotheses();
+        orderByTheFirstDifference();
         Bench.close("JoinTest");
     }
 
@@ -110,5 +111,26 @@ final class JoinTest {
         bench.showsTheorem("12 12 11 0 1 12 12 11 0 1 10 0 1 10 1 1 12 12 11 0 1 10 1 1 10 0 1",
                 "10 0 1", "10 1 1", "12 12 11 0 1 10 0 1 10 1 1");
         bench.answers(3, "length 0 1").answers(3, "length 0 2").answers(11, "length 0 3").answers(-1, "length 0 4");
+    }
+
+    /** Rows that differ in their first symbol, in a name, in their last name, and in a bound variable's number. */
+    private static void orderByTheFirstDifference() {
+        Bench bench = new Bench("promise 8, the order of a variable, a constant and an application");
+        bench.does("type -1, type -1, type 4, constant 0, type -1, var 0, type -1, var 0, abs, keep 0, app, fetch 0, app");
+        bench.does("theorem 4, pop, " + Recipes.type(3) + ", var 0, type -1, var 0, app, theorem 1, keep 1");
+        bench.does("constant 1, theorem 1, keep 2, join 2").showsTheorem("12 12 11 0 1 12 10 0 0 1 1 10 0 1 11 1 1",
+                "11 1 1", "12 10 0 0 1 1 10 0 1");
+        bench.does("type -1, var 5, theorem 1, join 2").answers(3, "hypotheses 0");
+        bench.shows(0, 1, "10 5 1").shows(0, 2, "11 1 1").shows(0, 3, "12 10 0 0 1 1 10 0 1");
+        bench.does("pop, type -1, var 5, theorem 1, fetch 2, join 2").shows(0, 1, "10 5 1").shows(0, 2, "11 1 1");
+        bench = new Bench("promise 8, the order of rows that differ in their last name");
+        for (int name = 7; name >= 5; name--) {
+            bench.does(Recipes.equation(Recipes.truth(0), Recipes.truth(name)) + ", theorem 1, type -1, var 0, theorem 3, join 0");
+        }
+        bench.does("join 2, join 2").showsTheorem("12 12 11 0 1 10 7 1 12 12 11 0 1 10 6 1 10 5 1", "12 12 11 0 1 10 0 1 10 5 1",
+                "12 12 11 0 1 10 0 1 10 6 1", "12 12 11 0 1 10 0 1 10 7 1");
+        bench = new Bench("promise 8, the order of a bound and a free variable").does("type -1, var 0, keep 0, pop");
+        bench.does("fetch 0, fetch 0, abs, fetch 0, app, theorem 1, type -1, var 1, fetch 0, abs, fetch 0, app, theorem 1, join 2");
+        bench.answers(2, "hypotheses 0").shows(0, 1, "12 13 1 10 0 1 10 0 1").shows(0, 2, "12 13 1 20 10 0 1");
     }
 }

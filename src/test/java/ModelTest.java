@@ -15,6 +15,8 @@ final class ModelTest {
         "type 0,constant 0,keep 0,type 0,var 0,keep 1,app,type 0,var 1,keep 2,app,keep 3,theorem 1,keep 4",
         "type 0,var 0,keep 0,type -1,var 0,keep 1,type 0,type -1,type 4,var 3,keep 2,fetch 0,app,keep 3,theorem 1,keep 4",
         "type 1,var 0,keep 0,fetch 0,abs,keep 1,theorem 4,keep 2,type 0,type 1,type 4,keep 3",
+        "type -1,type -1,type 4,constant 0,type -1,var 0,type -1,var 0,abs,keep 0,app,fetch 0,app,theorem 4,pop,"
+                + "constant 1,keep 0,theorem 1,keep 1,type -1,var 2,keep 2,theorem 1,keep 3,type -1,constant 0,keep 5",
         "type -1,type 0,type 4,keep 5,var 1,keep 0,type -1,var 2,keep 1,app,keep 3,pop,fetch 1,fetch 3,abs,fetch 1,app",
     };
     private static final String[] MUST_HAPPEN = {
