@@ -7,10 +7,12 @@ import java.nio.file.Files;
 import java.nio.file.Path;
 import java.util.Set;
 import java.util.TreeSet;
+import java.util.regex.Matcher;
 import java.util.regex.Pattern;
 
 /** The rules of LANGUAGE.md that a program can look after: the face, the words that are ruled out, and no call that throws. */
 final class LanguageTest {
+    private static final String SOURCE = "src/main/java/SequentMachine.java";
     private static final String[] FACE = {
         "abs()", "absThm()", "app()", "constant(int)", "count(int)", "export()", "fetch(int)", "hypotheses(int)", "inst()",
         "instType(int)", "join(int)", "keep(int)", "kind(int)", "length(int,int)", "pop()", "symbol(int,int,int)",
@@ -22,10 +24,18 @@ final class LanguageTest {
         "\\bdouble\\b", "\\bfloat\\b", "\\bnative\\b", "\\bThread\\b", "\\bpackage\\b", "[^\\x00-\\x7f]",
     };
 
+    private static final Pattern METHOD = Pattern.compile(
+            "(?ms)^( {4}| {8})(?! |if|for|while|switch)[\\w\\[\\] ]+\\([^\\n]*\\) \\{$.*?^\\1\\}$");
+
     public static void main(String[] args) throws IOException {
         face();
         classesInside();
+        sizes(SequentMachine.class);
+        for (Class<?> inside : SequentMachine.class.getDeclaredClasses()) {
+            sizes(inside);
+        }
         words();
+        lengthsOfMethods();
         longUse();
         Bench.close("LanguageTest");
     }
@@ -64,8 +74,34 @@ final class LanguageTest {
         }
     }
 
+    private static void sizes(Class<?> type) {
+        int fields = 0;
+        for (Field field : type.getDeclaredFields()) {
+            fields += Modifier.isStatic(field.getModifiers()) ? 0 : 1;
+        }
+        Bench.check(type + " has at most twenty fields", fields <= 20, true);
+        for (Method method : type.getDeclaredMethods()) {
+            Bench.check(method + " takes at most seven parameters", method.getParameterCount() <= 7, true);
+        }
+    }
+
+    /** A method ends at the first closing brace that stands as far right as its own line. */
+    private static void lengthsOfMethods() throws IOException {
+        String source = Files.readString(Path.of(SOURCE));
+        Matcher method = METHOD.matcher(source);
+        int methods = 0;
+        while (method.find()) {
+            methods++;
+            long lines = method.group().lines().count();
+            Bench.check(method.group().lines().findFirst().get().trim() + " has at most sixty lines", lines <= 60, true);
+        }
+        Bench.check("methods were found", methods > 80, true);
+    }
+
     private static void words() throws IOException {
-        String source = Files.readString(Path.of("src/main/java/SequentMachine.java"));
+        String source = Files.readString(Path.of(SOURCE));
+        Bench.check("the imports", source.lines().filter(line -> line.startsWith("import ")).toList().toString(),
+                "[import java.util.Arrays;]");
         String code = source.replaceAll("(?s)/\\*.*?\\*/", "").replaceAll("//.*", "");
         for (String word : RULED_OUT) {
             Bench.check("the program has " + word, Pattern.compile(word).matcher(code).find(), false);
